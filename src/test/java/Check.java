@@ -39,6 +39,13 @@ final class Check {
     count(asDue, call + " " + got + ", due is to throw " + due.getName());
   }
 
+  /** As fails, and the object has to stand as before, as far as its digest tells. */
+  void refuses(PrizeHouse prize, String call, Class<? extends RuntimeException> due, Call run) {
+    long before = prize.digest();
+    fails(call, due, run);
+    is(call + " left the digest", prize.digest(), before);
+  }
+
   private void count(boolean asDue, String story) {
     if (asDue) {
       right++;
