@@ -281,6 +281,11 @@ public final class ActTest {
     slow.pass(60);
     c.is("10 at least, behind 1500", slow.ofJudge(0, 5), 1620);
     c.is("days that are left", slow.readIn(), 18);
+    PrizeHouse close = readers(58, 500, 500, 800);
+    close.pass(18);
+    c.is("9 days of 58 and 9 of 53", close.ofJudge(0, 5), 999);
+    close.pass(1);
+    c.is("999 is one whole 500", close.ofJudge(0, 5), 1052);
   }
 
   private static void passSales() {
@@ -352,6 +357,13 @@ public final class ActTest {
     c.refuses(p, "crates are still not read", STATE, () -> p.longList(3));
     p.pass(1);
     c.is("as all are read", p.longList(3), 3);
+    PrizeHouse first = readers(20, 100, 101, 100);
+    first.pass(15);
+    c.is("one page is left in the crate of judge 0", first.ofJudge(0, 3), 1);
+    c.is("none is left in the others", first.ofJudge(1, 3) + first.ofJudge(2, 3), 0);
+    c.refuses(first, "one page is not read", STATE, () -> first.longList(3));
+    first.pass(1);
+    c.is("as it is read", first.longList(3), 3);
     for (int phase = 0; phase < 5; phase++) {
       PrizeHouse other = Scenes.inPhase(phase);
       c.refuses(other, "many 2 in phase " + phase, ARGUMENT, () -> other.longList(2));
@@ -415,8 +427,9 @@ public final class ActTest {
 
   private static void longListByMarks() {
     c.part("promise 12, by marks");
-    int[][] judges = {{}, {0}, {3}, {0, 1}, {0, 3}, {0, 1, 3}, {0, 1, 2}, {0, 1, 2, 3}};
-    boolean[] isOn = {true, true, true, false, true, true, false, false};
+    int[][] judges = {{}, {0}, {3}, {0, 1}, {1, 2}, {0, 3}, {0, 1, 3}, {1, 2, 3}, {0, 1, 2},
+        {0, 1, 2, 3}};
+    boolean[] isOn = {true, true, true, false, false, true, true, true, false, false};
     for (int k = 0; k < judges.length; k++) {
       PrizeHouse p = fourRead();
       for (int j : judges[k]) {
@@ -499,6 +512,13 @@ public final class ActTest {
     byGivers.points(1, 3, 6);
     byGivers.shortList(2);
     c.is("by givers, then by scores", byGivers.many(8), 32 + 8);
+    PrizeHouse bySmall = Scenes.longListed(8);
+    bySmall.points(2, 4, 2);
+    bySmall.points(0, 5, 1);
+    bySmall.points(1, 5, 1);
+    bySmall.points(1, 3, 2);
+    bySmall.shortList(2);
+    c.is("one point makes a giver, judge 0 too", bySmall.many(8), 32 + 8);
     PrizeHouse byOthers = Scenes.longListed(8);
     byOthers.points(0, 4, 6);
     byOthers.points(1, 4, 3);
@@ -708,6 +728,19 @@ public final class ActTest {
     c.is("winner", p.many(9), -1);
     c.is("stripped", p.many(11), 3);
     c.refuses(p, "there is none", STATE, p::strip);
+    PrizeHouse second = Scenes.shortListed(3);
+    second.vote(0, 213);
+    second.vote(1, 213);
+    second.vote(2, 321);
+    c.is("end", second.end(), 1);
+    c.is("by orders as they are", second.strip(), 0);
+    c.is("strip", second.strip(), 2);
+    PrizeHouse third = Scenes.shortListed(3);
+    third.vote(0, 321);
+    third.vote(1, 231);
+    third.vote(2, 132);
+    c.is("end", third.end(), 1);
+    c.is("by all orders", third.strip(), 2);
     for (int phase = 0; phase < 4; phase++) {
       PrizeHouse other = Scenes.inPhase(phase);
       c.refuses(other, "strip in phase " + phase, STATE, other::strip);
@@ -745,6 +778,17 @@ public final class ActTest {
     c.is("quotas stay by the longlist", p.ofHouse(0, 1), 4);
     c.is("quotas stay by the longlist", p.ofHouse(2, 1), 3);
     c.is("the winner ever", p.ofHouse(1, 4), 1);
+    int[] merits = {1, 2, 4};
+    for (int b = 6; b < 9; b++) {
+      p.book(b % 3, b, 0, 100, merits[b - 6], 5);
+      p.enter(b);
+    }
+    p.read();
+    p.pass(2);
+    // Marks are 11, 12 and 14: 370 in all, 123 in the mean.
+    c.is("scores by the marks of this year alone", p.ofBook(6, 8), 500 - 13);
+    c.is("scores by the marks of this year alone", p.ofBook(8, 8), 500 + 17);
+    c.isDouble("meanMark() of this year alone", p.meanMark(), 37.0 / 3.0);
     for (int phase = 0; phase < 4; phase++) {
       PrizeHouse other = Scenes.inPhase(phase);
       c.refuses(other, "next in phase " + phase, STATE, other::next);

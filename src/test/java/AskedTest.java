@@ -209,6 +209,12 @@ public final class AskedTest {
     c.is("winner", p.many(9), 0);
     p.strip();
     c.is("winner then", p.many(9), 1);
+    PrizeHouse sales = Scenes.told();
+    sales.print(0, 2);
+    sales.print(5, 3);
+    sales.pass(4);
+    c.is("sold of the first and the last", sales.many(12), 5);
+    c.is("missed of all", sales.many(13), 24 - 5);
     c.is("stripped", p.many(11), 1);
     p.next();
     int[] then = {1, 0, 5, 3, 6, 3, 0, 0, 0, -1, 1, 1, 7, 85, 10};

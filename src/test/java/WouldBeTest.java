@@ -210,6 +210,42 @@ public final class WouldBeTest {
     return d;
   }
 
+  /** No row is free: five houses, sixteen books and five judges go through a year. */
+  private static void full() {
+    PrizeHouse p = new PrizeHouse();
+    for (int k = 0; k < 5; k++) {
+      p.house();
+      p.judge(200 - k, k, k);
+    }
+    for (int b = 0; b < 16; b++) {
+      p.book(b % 5, b % 10, b % 3, 100 + b, 2 * b, b % 10);
+    }
+    c.is("full, told", p.digest(), digestOf(p));
+    for (int b = 0; b < 10; b++) {
+      p.enter(b);
+    }
+    for (int j = 0; j < 5; j++) {
+      p.callIn(j, 11 + j);
+    }
+    c.is("full, entered", p.digest(), digestOf(p));
+    p.read();
+    c.is("full, reading", p.digest(), digestOf(p));
+    p.pass(20);
+    c.is("mean of all", p.meanMark() > 0 ? 1 : 0, 1);
+    c.is("longList", p.longList(8), 8);
+    p.points(4, 15, 12);
+    c.is("full, longlist", p.digest(), digestOf(p));
+    c.is("shortList", p.shortList(5), 5);
+    for (int j = 0; j < 5; j++) {
+      p.vote(j, 54321);
+    }
+    c.is("the last book wins", p.end(), 15);
+    c.is("full, ended", p.digest(), digestOf(p));
+    p.strip();
+    p.next();
+    c.is("full, next", p.digest(), digestOf(p));
+  }
+
   private static void digest() {
     c.part("promise 30");
     c.is("a new object", new PrizeHouse().digest(), -7699694265744296525L);
@@ -218,8 +254,11 @@ public final class WouldBeTest {
       c.is("in phase " + phase, p.digest(), digestOf(p));
       c.is("asked again", p.digest(), digestOf(p));
     }
-    PrizeHouse p = voted(321, 123, 123);
+    PrizeHouse p = voted(321, 123, 321);
+    c.is("wins(0)", p.wins(0), 2);
+    c.is("wins(1) is another one", p.wins(1), 0);
     c.is("with orders", p.digest(), digestOf(p));
+    full();
     PrizeHouse reading = Scenes.reading();
     c.is("while crates are read", reading.digest(), digestOf(reading));
   }
