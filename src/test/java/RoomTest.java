@@ -4,6 +4,7 @@ import java.lang.management.ManagementFactory;
 /** All calls of a run live in one room: a call that does not throw makes no object. */
 public final class RoomTest {
   private static final int ROUNDS = 200;
+  private static final int TRIES = 5;
 
   private static long sum;
 
@@ -39,22 +40,28 @@ public final class RoomTest {
     p.next();
   }
 
-  public static void main(String[] args) {
-    ThreadMXBean threads = (ThreadMXBean) ManagementFactory.getThreadMXBean();
+  private static long bytesMade(ThreadMXBean threads) {
     long thread = Thread.currentThread().getId();
     PrizeHouse[] prizes = new PrizeHouse[ROUNDS];
     for (int k = 0; k < ROUNDS; k++) {
       prizes[k] = Scenes.told();
     }
-    goThrough(prizes[0]);
-    threads.getThreadAllocatedBytes(thread);
     long before = threads.getThreadAllocatedBytes(thread);
-    for (int k = 1; k < ROUNDS; k++) {
-      goThrough(prizes[k]);
+    for (PrizeHouse p : prizes) {
+      goThrough(p);
     }
-    long made = threads.getThreadAllocatedBytes(thread) - before;
-    System.out.println("RoomTest: " + made + " bytes in " + (ROUNDS - 1) + " years, sum " + sum);
-    // One small object a year would be 16 bytes; the measure itself may leave a few.
-    System.exit(made < 16L * (ROUNDS - 1) ? 0 : 1);
+    return threads.getThreadAllocatedBytes(thread) - before;
+  }
+
+  public static void main(String[] args) {
+    ThreadMXBean threads = (ThreadMXBean) ManagementFactory.getThreadMXBean();
+    // The machine itself may make something in one try, but what a call makes is there in each.
+    long least = Long.MAX_VALUE;
+    for (int k = 0; k < TRIES; k++) {
+      least = Math.min(least, bytesMade(threads));
+    }
+    System.out.println("RoomTest: " + least + " bytes in " + ROUNDS + " years, sum " + sum);
+    // One small object a year would be 16 bytes.
+    System.exit(least < 16L * ROUNDS ? 0 : 1);
   }
 }
