@@ -1,7 +1,22 @@
+import java.util.List;
+
 /** Counts the answers of one test program that are as due, and tells each one that is not. */
 final class Check {
   interface Call {
     Object answer();
+  }
+
+  /** Makes a prize in the state that a case begins with, the same one each time. */
+  interface Scene {
+    PrizeHouse make();
+  }
+
+  interface CallOn {
+    Object answer(PrizeHouse prize);
+  }
+
+  interface CallWith {
+    Object answer(PrizeHouse prize, int value);
   }
 
   private final String test;
@@ -44,6 +59,60 @@ final class Check {
     long before = prize.digest();
     fails(call, due, run);
     is(call + " left the digest", prize.digest(), before);
+  }
+
+  /** As fails, and nothing is changed: the prize goes on as its twin that never met the call. */
+  void refusesIn(Scene scene, String call, Class<? extends RuntimeException> due, CallOn run) {
+    PrizeHouse prize = scene.make();
+    fails(call, due, () -> run.answer(prize));
+    goesOnAs(call, prize, scene.make());
+  }
+
+  /** As refusesIn, of a call that is refused by its answer. */
+  void declinesIn(Scene scene, String call, int due, CallOn run) {
+    PrizeHouse prize = scene.make();
+    count(run.answer(prize).equals(due), call + " was not declined by " + due);
+    goesOnAs(call, prize, scene.make());
+  }
+
+  /** What only asks changes nothing. */
+  void leavesIn(Scene scene, String call, CallOn run) {
+    PrizeHouse prize = scene.make();
+    run.answer(prize);
+    goesOnAs(call, prize, scene.make());
+  }
+
+  void takesIn(Scene scene, String call, CallOn run) {
+    String story = call + " was not taken";
+    boolean asDue = false;
+    try {
+      asDue = (int) run.answer(scene.make()) >= 0;
+    } catch (RuntimeException e) {
+      story += ", it threw " + e.getClass().getName();
+    }
+    count(asDue, story);
+  }
+
+  /** The last values that are allowed, the first that are not, on both sides, and the farthest. */
+  void range(Scene scene, String value, int least, int most,
+      Class<? extends RuntimeException> due, CallWith call) {
+    for (int v : new int[] {least, most}) {
+      takesIn(scene, value + " " + v, p -> call.answer(p, v));
+    }
+    for (int v : new int[] {least - 1, most + 1, Integer.MIN_VALUE, Integer.MAX_VALUE}) {
+      refusesIn(scene, value + " " + v, due, p -> call.answer(p, v));
+    }
+  }
+
+  private void goesOnAs(String call, PrizeHouse prize, PrizeHouse twin) {
+    List<String> got = Future.of(prize);
+    List<String> due = Future.of(twin);
+    int same = 0;
+    while (same < due.size() && got.get(same).equals(due.get(same))) {
+      same++;
+    }
+    count(same == due.size(), call + " changed something: later " + (same < due.size()
+        ? got.get(same) + ", due is " + due.get(same) : "nothing"));
   }
 
   private void count(boolean asDue, String story) {

@@ -65,12 +65,110 @@ final class Scenes {
     return p;
   }
 
-  /** Goes from phase 0, where three books or more are entered, to the next year. */
-  static void finishYear(PrizeHouse p) {
+  /** As ended, in entry of the next year: books 0 to 5 were entered, house 0 has a quota of 4. */
+  static PrizeHouse nextYear() {
+    PrizeHouse p = ended();
+    p.next();
+    return p;
+  }
+
+  /** So many houses, and so many judges of speed 200, taste 5 and lean 0. */
+  static PrizeHouse with(int houses, int judges) {
+    PrizeHouse p = new PrizeHouse();
+    for (int h = 0; h < houses; h++) {
+      p.house();
+    }
+    for (int j = 0; j < judges; j++) {
+      p.judge(200, 5, 0);
+    }
+    return p;
+  }
+
+  /** Tells a book of form 0 and flavour 5, which the judges of the scenes mark with merit + 10. */
+  static int tell(PrizeHouse p, int house, int author, int pages, int merit) {
+    return p.book(house, author, 0, pages, merit, 5);
+  }
+
+  static void enterAll(PrizeHouse p, int... books) {
+    for (int b : books) {
+      p.enter(b);
+    }
+  }
+
+  /** Begins reading, and reads on until all crates are read. */
+  static void readAll(PrizeHouse p) {
     p.read();
     while (p.readIn() > 0) {
       p.pass(1);
     }
+  }
+
+  /** All that there can be: 5 houses, 5 judges, 16 books of 100 pages by author b % 10. */
+  static PrizeHouse full() {
+    PrizeHouse p = with(5, 5);
+    for (int b = 0; b < 16; b++) {
+      tell(p, b % 5, b % 10, 100, 3 * b);
+    }
+    return p;
+  }
+
+  /** As full, with the 15 books entered that can be in the first year: 10 told, 5 called in. */
+  static PrizeHouse fullEntered() {
+    PrizeHouse p = full();
+    for (int b = 0; b < 10; b++) {
+      p.enter(b);
+    }
+    for (int j = 0; j < 5; j++) {
+      p.callIn(j, 10 + j);
+    }
+    return p;
+  }
+
+  /** Phase 2: so many books on the longlist, each by its own house and author, all of score 500. */
+  static PrizeHouse evenLong(int judges, int books) {
+    PrizeHouse p = with(5, judges);
+    for (int b = 0; b < books; b++) {
+      tell(p, b, b, 100, 30);
+      p.enter(b);
+    }
+    readAll(p);
+    p.longList(8);
+    return p;
+  }
+
+  /** As evenLong, with all of them on the shortlist. */
+  static PrizeHouse even(int judges, int books) {
+    PrizeHouse p = evenLong(judges, books);
+    p.shortList(5);
+    return p;
+  }
+
+  /** As read, but each judge is in conflict with each author by now. */
+  static PrizeHouse disowned() {
+    PrizeHouse p = read();
+    for (int j = 0; j < 3; j++) {
+      disown(p, j);
+    }
+    return p;
+  }
+
+  static void disown(PrizeHouse p, int judge) {
+    for (int author = 0; author < 10; author++) {
+      p.conflict(judge, author);
+    }
+  }
+
+  /** Lets days go by until it is that day. */
+  static PrizeHouse onDay(PrizeHouse p, int day) {
+    while (p.many(2) < day) {
+      p.pass(Math.min(60, day - p.many(2)));
+    }
+    return p;
+  }
+
+  /** Goes from phase 0, where three books or more are entered, to the next year. */
+  static void finishYear(PrizeHouse p) {
+    readAll(p);
     p.longList(8);
     p.shortList(5);
     p.end();
