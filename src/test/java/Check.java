@@ -61,25 +61,30 @@ final class Check {
     is(call + " left the digest", prize.digest(), before);
   }
 
-  /** As fails, and nothing is changed: the prize goes on as its twin that never met the call. */
+  /** As fails, and nothing is changed by it, for all that is asked later on. */
   void refusesIn(Scene scene, String call, Class<? extends RuntimeException> due, CallOn run) {
     PrizeHouse prize = scene.make();
     fails(call, due, () -> run.answer(prize));
-    goesOnAs(call, prize, scene.make());
+    leavesIn(scene, call, run);
   }
 
   /** As refusesIn, of a call that is refused by its answer. */
   void declinesIn(Scene scene, String call, int due, CallOn run) {
-    PrizeHouse prize = scene.make();
-    count(run.answer(prize).equals(due), call + " was not declined by " + due);
-    goesOnAs(call, prize, scene.make());
+    is(call, (int) run.answer(scene.make()), due);
+    leavesIn(scene, call, run);
   }
 
-  /** What only asks changes nothing. */
+  /** The prize goes on as its twin that never met the call. */
   void leavesIn(Scene scene, String call, CallOn run) {
-    PrizeHouse prize = scene.make();
-    run.answer(prize);
-    goesOnAs(call, prize, scene.make());
+    for (boolean callsIn : new boolean[] {false, true}) {
+      PrizeHouse prize = scene.make();
+      try {
+        run.answer(prize);
+      } catch (RuntimeException e) {
+        // What it is to throw is checked elsewhere.
+      }
+      same(call, Future.of(prize, callsIn), Future.of(scene.make(), callsIn));
+    }
   }
 
   void takesIn(Scene scene, String call, CallOn run) {
@@ -104,15 +109,14 @@ final class Check {
     }
   }
 
-  private void goesOnAs(String call, PrizeHouse prize, PrizeHouse twin) {
-    List<String> got = Future.of(prize);
-    List<String> due = Future.of(twin);
+  private void same(String call, List<String> got, List<String> due) {
     int same = 0;
-    while (same < due.size() && got.get(same).equals(due.get(same))) {
+    while (same < due.size() && same < got.size() && got.get(same).equals(due.get(same))) {
       same++;
     }
-    count(same == due.size(), call + " changed something: later " + (same < due.size()
-        ? got.get(same) + ", due is " + due.get(same) : "nothing"));
+    count(same == due.size() && same == got.size(), call + " changed something: later "
+        + (same < got.size() ? got.get(same) : "nothing") + ", due is "
+        + (same < due.size() ? due.get(same) : "nothing"));
   }
 
   private void count(boolean asDue, String story) {

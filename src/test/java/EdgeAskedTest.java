@@ -92,6 +92,13 @@ public final class EdgeAskedTest {
     }
     p.next();
     c.is("the winner of the year ahead", p.ofBook(0, 7), 0);
+    PrizeHouse last = Scenes.shortListed(3);
+    last.vote(0, 321);
+    last.end();
+    int[] third = {2, 2, 3, 1, 1, 1};
+    for (int b = 0; b < 6; b++) {
+      c.is("book " + b + ", the third wins", last.ofBook(b, 7), third[b]);
+    }
     c.part("promise 20, \"5 1 if it is ELIGIBLE ..., 6 1 if it is ENTERED in this YEAR\"");
     for (int phase = 0; phase < 5; phase++) {
       PrizeHouse q = Scenes.inPhase(phase);
@@ -322,6 +329,10 @@ public final class EdgeAskedTest {
     for (int phase = 2; phase < 5; phase++) {
       c.isDouble("in phase " + phase, Scenes.inPhase(phase).meanMark(), 45.0);
     }
+    // Marks of books 0 to 14 are 10, 13 and so on to 52, each by three judges.
+    PrizeHouse full = Scenes.fullEntered();
+    Scenes.readAll(full);
+    c.isDouble("as many as there can be", full.meanMark(), 31.0);
   }
 
   private static void asking() {

@@ -312,6 +312,7 @@ public final class EdgeListsTest {
     c.is("two against one", bestTwo(0, 0, 2, 1, 1, 2, 0, 3, 1, 1, 3, 1), 8 + 1);
     c.is("three against two", bestTwo(0, 0, 2, 1, 0, 1, 0, 3, 1, 1, 3, 1, 2, 3, 1, 0, 1, 1,
         1, 1, 2), 8 + 1);
+    c.is("one by two ahead of them", bestTwo(0, 0, 1, 1, 0, 1, 0, 1, 2, 1, 2, 2), 1 + 2);
     c.is("0 is not some", bestTwo(0, 3, 1, 1, 3, 0, 0, 1, 1, 0, 2, 1), 2 + 4);
     c.is("nor is what is 0 from now on", bestTwo(0, 3, 1, 1, 3, 1, 1, 3, 0, 0, 1, 1, 0, 2, 1), 6);
     PrizeHouse torn = Scenes.evenLong(3, 4);

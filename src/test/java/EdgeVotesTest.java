@@ -252,7 +252,8 @@ public final class EdgeVotesTest {
     c.is("rising scores", rising.end(), 2);
     c.is("one book", listOf(1).end(), 0);
     PrizeHouse one = listOf(1);
-    one.vote(0, 1);
+    c.is("an order of one book", one.vote(0, 1), 1);
+    c.is("there is an order", one.ofJudge(0, 6), 1);
     c.is("one book and an order", one.end(), 0);
     c.part("terms 3, \"(for none, if there is no such)\"");
     PrizeHouse all = Scenes.even(3, 3);
@@ -342,9 +343,12 @@ public final class EdgeVotesTest {
     c.part("terms 3, \"by ORDERS and CONFLICTS as they are then\"");
     PrizeHouse orders = Scenes.even(3, 3);
     orders.vote(0, 132);
-    orders.vote(1, 132);
     c.is("end", orders.end(), 0);
-    c.is("by orders", orders.strip(), 2);
+    c.is("by an order of judge 0", orders.strip(), 2);
+    PrizeHouse others = Scenes.even(3, 3);
+    others.vote(1, 132);
+    others.end();
+    c.is("by an order of judge 1", others.strip(), 2);
     PrizeHouse conflicts = Scenes.even(3, 3);
     conflicts.vote(0, 132);
     conflicts.vote(1, 132);
@@ -435,6 +439,23 @@ public final class EdgeVotesTest {
     c.is("beatsAll()", p.beatsAll(), -1);
     c.is("readIn()", p.readIn(), -1);
     c.isDouble("meanMark()", p.meanMark(), 0.0);
+    c.part("terms 2, \"of all BOOKS that this JUDGE has MARKED in this YEAR\"");
+    int[] merits = {0, 30, 60};
+    int[] scores = {200, 500, 800};
+    for (int b = 6; b < 9; b++) {
+      Scenes.tell(p, b % 3, b, 100, merits[b - 6]);
+      p.enter(b);
+    }
+    Scenes.readAll(p);
+    c.isDouble("meanMark() of the next year", p.meanMark(), 40.0);
+    for (int b = 6; b < 9; b++) {
+      c.is("score of book " + b, p.ofBook(b, 8), scores[b - 6]);
+    }
+    p.longList(3);
+    c.is("12 points again", p.points(0, 6, 12), 0);
+    p.shortList(3);
+    c.is("no order of the year ahead", p.vote(1, 123), 1);
+    c.is("that one alone", p.wins(0), 6);
   }
 
   public static void main(String[] args) {

@@ -323,22 +323,25 @@ public final class EdgeWouldBeTest {
     for (int what = 0; what <= 14; what++) {
       values.add(p.many(what));
     }
-    for (int h = 0; h < p.many(3); h++) {
+    int houses = values.get(3);
+    int books = values.get(4);
+    int judges = values.get(5);
+    for (int h = 0; h < houses; h++) {
       for (int what = 0; what <= 4; what++) {
         values.add(p.ofHouse(h, what));
       }
     }
-    for (int b = 0; b < p.many(4); b++) {
+    for (int b = 0; b < books; b++) {
       for (int what = 0; what <= 10; what++) {
         values.add(p.ofBook(b, what));
       }
       values.add(p.spoiled(b));
     }
-    for (int j = 0; j < p.many(5); j++) {
+    for (int j = 0; j < judges; j++) {
       for (int what = 0; what <= 7; what++) {
         values.add(p.ofJudge(j, what));
       }
-      for (int b = 0; b < p.many(4); b++) {
+      for (int b = 0; b < books; b++) {
         values.add(p.mark(j, b));
       }
     }
@@ -354,9 +357,8 @@ public final class EdgeWouldBeTest {
     c.part("promise 30, \"which wraps around as a 64-bit integer\"");
     PrizeHouse none = new PrizeHouse();
     c.is("of a new one", none.digest(), sumOf(none));
-    PrizeHouse first = new PrizeHouse();
-    first.house();
-    c.is("of a house", first.digest(), sumOf(first));
+    PrizeHouse house = Scenes.with(1, 0);
+    c.is("of a house", house.digest(), sumOf(house));
     for (int phase = 0; phase < 5; phase++) {
       PrizeHouse p = Scenes.inPhase(phase);
       c.is("in phase " + phase, p.digest(), sumOf(p));
@@ -365,11 +367,18 @@ public final class EdgeWouldBeTest {
     }
     PrizeHouse votes = voted();
     c.is("with orders", votes.digest(), sumOf(votes));
+    PrizeHouse first = Scenes.even(3, 3);
+    first.vote(0, 321);
+    c.is("wins(0)", first.wins(0), 2);
+    c.is("wins(1) is another one", first.wins(1), 0);
+    c.is("wins(2) is not", first.wins(2), 2);
+    c.is("with the order of judge 0", first.digest(), sumOf(first));
     PrizeHouse full = Scenes.fullEntered();
     c.is("of a full one", full.digest(), sumOf(full));
-    full.read();
-    full.pass(3);
-    c.is("of a full one that reads", full.digest(), sumOf(full));
+    PrizeHouse reader = Scenes.fullEntered();
+    reader.read();
+    reader.pass(3);
+    c.is("of a full one that reads", reader.digest(), sumOf(reader));
     PrizeHouse late = Scenes.onDay(Scenes.told(), 9999);
     c.is("on the last day", late.digest(), sumOf(late));
   }

@@ -2,91 +2,156 @@ import java.util.ArrayList;
 import java.util.List;
 
 /**
- * What a prize answers from now on, over the rest of this year and two more: whatever an object
- * holds without showing it at once comes to light in there.
+ * What a prize answers from now on, until entry of the year after the next one: whatever an object
+ * holds without showing it at once comes to light in there. But for a judge who may have called one
+ * in, no call is made that is to be refused: that might hide what an earlier one like it changed.
  */
 final class Future {
   private final PrizeHouse p;
+  private final boolean callsIn;
   private final List<String> told = new ArrayList<>();
 
-  private Future(PrizeHouse p) {
+  private Future(PrizeHouse p, boolean callsIn) {
     this.p = p;
+    this.callsIn = callsIn;
   }
 
-  static List<String> of(PrizeHouse p) {
-    Future future = new Future(p);
-    future.ask("digest()", p::digest);
-    future.asIs();
-    for (int year = 0; year < 3; year++) {
-      future.year(year);
+  static List<String> of(PrizeHouse p, boolean callsIn) {
+    Future future = new Future(p, callsIn);
+    try {
+      future.goOn();
+    } catch (RuntimeException e) {
+      future.told.add("a call threw " + e.getClass().getName());
     }
     return future.told;
   }
 
-  private void ask(String call, Check.Call run) {
-    String answer;
-    try {
-      answer = String.valueOf(run.answer());
-    } catch (RuntimeException e) {
-      answer = e.getClass().getName();
+  private void goOn() {
+    asIs();
+    year(0);
+    if (p.many(1) == 0) {
+      year(1);
     }
+    if (p.many(1) == 0) {
+      tell(2);
+    }
+  }
+
+  private int ask(String call, int answer) {
     told.add(call + " answered " + answer);
+    return answer;
   }
 
-  /** Ahead of calls that put other values in place of hidden ones. */
+  private void digest(String when) {
+    told.add("digest() " + when + " answered " + p.digest());
+  }
+
   private void asIs() {
+    digest("at once");
     for (int set = 2; set < 8; set++) {
-      int judges = set;
-      ask("wins(" + set + ")", () -> p.wins(judges));
+      ask("wins(" + set + ")", p.wins(set));
     }
-    ask("meanMark()", p::meanMark);
+    told.add("meanMark() answered " + p.meanMark());
   }
 
+  /** Goes on in the phase that it is, as far as it can. */
   private void year(int year) {
-    entry(year);
-    ask("read()", p::read);
-    ask("pass(1)", () -> p.pass(1));
-    ask("digest() while reading", p::digest);
-    for (int k = 0; k < 4; k++) {
-      ask("pass(30)", () -> p.pass(30));
+    if (p.many(1) == 0) {
+      tell(year);
+      if (callsIn) {
+        callIn();
+      }
+      enter();
+      if (p.many(5) >= 3 && p.many(6) >= 3) {
+        ask("read()", p.read());
+      }
     }
-    ask("longList(8)", () -> p.longList(8));
-    points();
-    ask("shortList(5)", () -> p.shortList(5));
-    votes();
-    ask("end()", p::end);
-    ask("strip()", p::strip);
-    ask("digest() at the end", p::digest);
-    ask("next()", p::next);
-    ask("digest() in the next year", p::digest);
+    if (p.many(1) == 1) {
+      readOn();
+    }
+    if (p.many(1) == 2) {
+      points();
+      ask("shortList(5)", p.shortList(5));
+    }
+    if (p.many(1) == 3) {
+      votes();
+      ask("end()", p.end());
+    }
+    if (p.many(1) == 4) {
+      if (p.many(9) != -1) {
+        ask("strip()", p.strip());
+      }
+      digest("at the end");
+      ask("next()", p.next());
+    }
   }
 
-  /** Books of each form and at the borders of pages show by which rules a year goes. */
-  private void entry(int year) {
-    ask("house()", p::house);
-    ask("judge", () -> p.judge(190 - year, 3, 1));
-    ask("book", () -> p.book(0, 8, 0, year == 1 ? 900 : 50, 20, 4));
-    ask("book", () -> p.book(0, 7, 1, year == 1 ? 800 : 100, 30, 6));
-    ask("book", () -> p.book(0, 9, 2, year == 1 ? 801 : 99, 10, 1));
-    for (int k = 0; k < 10; k++) {
-      int judge = k % 5;
-      int book = k;
-      ask("callIn(" + judge + ", " + book + ")", () -> p.callIn(judge, book));
+  /** Books of each form, and near the borders of pages, show by which rules a year goes. */
+  private void tell(int year) {
+    if (p.many(3) < 5) {
+      ask("house()", p.house());
     }
-    for (int b = 0; b < 16; b++) {
-      int book = b;
-      ask("enter(" + b + ")", () -> p.enter(book));
+    for (int taste = 3; taste < 6 && p.many(5) < 5; taste++) {
+      ask("judge", p.judge(190 - year, taste, 1));
     }
-    ask("print(0, 30)", () -> p.print(0, 30));
+    int[][] pages = {{99, 300, 100}, {200, 801, 100}, {200, 300, 900}};
+    for (int form = 0; form < 3 && p.many(3) > 0 && p.many(4) < 16; form++) {
+      ask("book", p.book(0, 9 - form, form, pages[year][form], 10 + 10 * form, 1 + 2 * form));
+    }
+    digest("in entry");
+  }
+
+  private boolean canCome(int book) {
+    return p.ofBook(book, 5) == 1 && p.ofBook(book, 6) == 0;
+  }
+
+  private void callIn() {
+    int book = 0;
+    for (int judge = 0; judge < p.many(5); judge++) {
+      while (book < p.many(4) && !canCome(book)) {
+        book++;
+      }
+      if (book < p.many(4) && (p.ofJudge(judge, 1) >> p.ofBook(book, 1) & 1) == 0) {
+        ask("callIn(" + judge + ", " + book + ")", p.callIn(judge, book));
+      }
+    }
+  }
+
+  private void enter() {
+    for (int b = 0; b < p.many(4); b++) {
+      if (canCome(b)) {
+        int house = p.ofBook(b, 0);
+        if (p.ofHouse(house, 1) > p.ofHouse(house, 2)) {
+          ask("enter(" + b + ")", p.enter(b));
+        }
+      }
+    }
+  }
+
+  private void readOn() {
+    for (int k = 0; k < 20 && p.readIn() > 0; k++) {
+      int days = Math.min(k == 0 ? 1 : 60, 9999 - p.many(2));
+      if (days == 0) {
+        return;
+      }
+      ask("pass(" + days + ")", p.pass(days));
+      digest("while reading");
+    }
+    ask("longList(8)", p.longList(8));
   }
 
   private void points() {
-    for (int k = 0; k < 40; k++) {
-      int judge = k / 8;
-      int book = k % 8;
-      ask("points(" + judge + ", " + book + ")", () -> p.points(judge, book, (judge + book) % 4));
+    int listed = p.many(7);
+    for (int judge = 0; judge < 2; judge++) {
+      int left = p.ofJudge(judge, 7);
+      int against = p.ofJudge(judge, 1);
+      for (int b = 0; b < 6; b++) {
+        if ((listed >> b & 1) == 1 && (against >> p.ofBook(b, 1) & 1) == 0 && left > 2) {
+          left = ask("points(" + judge + ", " + b + ")", p.points(judge, b, 1 + judge));
+        }
+      }
     }
-    ask("digest() with points", p::digest);
+    digest("with points");
   }
 
   private void votes() {
@@ -97,11 +162,11 @@ final class Future {
       rising = 10 * rising + k;
       falling = 10 * falling + size + 1 - k;
     }
-    int first = rising;
-    int second = falling;
-    ask("vote(1, " + first + ")", () -> p.vote(1, first));
-    ask("digest() with an order", p::digest);
-    ask("vote(2, " + second + ")", () -> p.vote(2, second));
-    ask("digest() with orders", p::digest);
+    if (size > 0) {
+      ask("vote(1, " + rising + ")", p.vote(1, rising));
+      digest("with an order");
+      ask("vote(2, " + falling + ")", p.vote(2, falling));
+      digest("with orders");
+    }
   }
 }

@@ -160,8 +160,9 @@ final class Scenes {
 
   /** Lets days go by until it is that day. */
   static PrizeHouse onDay(PrizeHouse p, int day) {
-    while (p.many(2) < day) {
-      p.pass(Math.min(60, day - p.many(2)));
+    int left = day - p.many(2);
+    for (; left > 0; left -= 60) {
+      p.pass(Math.min(60, left));
     }
     return p;
   }

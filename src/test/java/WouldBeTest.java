@@ -180,6 +180,8 @@ public final class WouldBeTest {
 
   /** The sum as the document tells it, by the other calls. */
   private static long digestOf(PrizeHouse p) {
+    int books = p.many(4);
+    int judges = p.many(5);
     long d = 9117;
     for (int what = 0; what <= 14; what++) {
       d = d * 31 + p.many(what);
@@ -189,17 +191,17 @@ public final class WouldBeTest {
         d = d * 31 + p.ofHouse(h, what);
       }
     }
-    for (int b = 0; b < p.many(4); b++) {
+    for (int b = 0; b < books; b++) {
       for (int what = 0; what <= 10; what++) {
         d = d * 31 + p.ofBook(b, what);
       }
       d = d * 31 + p.spoiled(b);
     }
-    for (int j = 0; j < p.many(5); j++) {
+    for (int j = 0; j < judges; j++) {
       for (int what = 0; what <= 7; what++) {
         d = d * 31 + p.ofJudge(j, what);
       }
-      for (int b = 0; b < p.many(4); b++) {
+      for (int b = 0; b < books; b++) {
         d = d * 31 + p.mark(j, b);
       }
     }
@@ -210,8 +212,8 @@ public final class WouldBeTest {
     return d;
   }
 
-  /** No row is free: five houses, sixteen books and five judges go through a year. */
-  private static void full() {
+  /** No row is free: five houses, sixteen books and five judges go through the steps of a year. */
+  private static PrizeHouse full(int steps) {
     PrizeHouse p = new PrizeHouse();
     for (int k = 0; k < 5; k++) {
       p.house();
@@ -220,30 +222,34 @@ public final class WouldBeTest {
     for (int b = 0; b < 16; b++) {
       p.book(b % 5, b % 10, b % 3, 100 + b, 2 * b, b % 10);
     }
-    c.is("full, told", p.digest(), digestOf(p));
-    for (int b = 0; b < 10; b++) {
-      p.enter(b);
+    if (steps > 0) {
+      for (int b = 0; b < 10; b++) {
+        p.enter(b);
+      }
+      for (int j = 0; j < 5; j++) {
+        p.callIn(j, 11 + j);
+      }
     }
-    for (int j = 0; j < 5; j++) {
-      p.callIn(j, 11 + j);
+    if (steps > 1) {
+      p.read();
     }
-    c.is("full, entered", p.digest(), digestOf(p));
-    p.read();
-    c.is("full, reading", p.digest(), digestOf(p));
-    p.pass(20);
-    c.is("mean of all", p.meanMark() > 0 ? 1 : 0, 1);
-    c.is("longList", p.longList(8), 8);
-    p.points(4, 15, 12);
-    c.is("full, longlist", p.digest(), digestOf(p));
-    c.is("shortList", p.shortList(5), 5);
-    for (int j = 0; j < 5; j++) {
-      p.vote(j, 54321);
+    if (steps > 2) {
+      p.pass(20);
+      c.is("longList", p.longList(8), 8);
+      p.points(4, 15, 12);
     }
-    c.is("the last book wins", p.end(), 15);
-    c.is("full, ended", p.digest(), digestOf(p));
-    p.strip();
-    p.next();
-    c.is("full, next", p.digest(), digestOf(p));
+    if (steps > 3) {
+      c.is("shortList", p.shortList(5), 5);
+      for (int j = 0; j < 5; j++) {
+        p.vote(j, 54321);
+      }
+      c.is("the last book wins", p.end(), 15);
+    }
+    if (steps > 4) {
+      p.strip();
+      p.next();
+    }
+    return p;
   }
 
   private static void digest() {
@@ -258,7 +264,11 @@ public final class WouldBeTest {
     c.is("wins(0)", p.wins(0), 2);
     c.is("wins(1) is another one", p.wins(1), 0);
     c.is("with orders", p.digest(), digestOf(p));
-    full();
+    // Each is a new object: an object is good for 512 calls, and a sum of a full one takes 360.
+    for (int steps = 0; steps < 6; steps++) {
+      PrizeHouse full = full(steps);
+      c.is("full, " + steps + " steps", full.digest(), digestOf(full));
+    }
     PrizeHouse reading = Scenes.reading();
     c.is("while crates are read", reading.digest(), digestOf(reading));
   }
