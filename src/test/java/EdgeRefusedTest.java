@@ -27,10 +27,10 @@ public final class EdgeRefusedTest {
   private static void entry(PrizeHouse p, int first) {
     int[] houses = {0, 0, 1, 2, 0, 3};
     for (int k = 0; k < 6; k++) {
-      p.book(houses[k], k, k % 2, k == 5 ? 59 : 150 + 20 * k, 50 - 7 * k, 3 + k);
+      p.book(houses[k], k, k % 3, k == 5 ? 65 : 150 + 20 * k, 50 - 7 * k, 3 + k);
       p.print(first + k, 40 + k);
     }
-    p.rules(5, 60, 850, 7);
+    p.rules(5, 70, 850, 7);
     p.enter(first);
     p.enter(first + 1);
     p.callIn(1, first + 3);
@@ -68,7 +68,7 @@ public final class EdgeRefusedTest {
       return p;
     }
     entry(p, 0);
-    p.rules(7, 60, 850, 7);
+    p.rules(7, 70, 850, 7);
     go(p, 0, 4);
     p.strip();
     p.next();
@@ -84,7 +84,7 @@ public final class EdgeRefusedTest {
     for (int b = 0; b < 3; b++) {
       Scenes.tell(p, 0, b, 150, 20 + b);
     }
-    p.rules(5, 60, 850, 7);
+    p.rules(5, 70, 850, 7);
     p.enter(0);
     p.callIn(1, 1);
     return p;
