@@ -41,6 +41,10 @@ final class Check {
     count(got == due, call + " answered " + got + ", due is " + due);
   }
 
+  void holds(String what, boolean asDue, String otherwise) {
+    count(asDue, what + " " + otherwise);
+  }
+
   /** Wants the very class: what the machine throws by itself is always of another one. */
   void fails(String call, Class<? extends RuntimeException> due, Call run) {
     String got;
